@@ -1268,11 +1268,9 @@ public final class ToadsBefore {
         }
 
         void learn(int p, int z, int a, int b) {
-            for (int day = a; day <= b; day++) {
-                if (isDay(day)) {
-                    odds[day] = forecast.ofShakes(day - 1, p, 1, z, day, day);
-                    shakes[day] = book.howManySuch(p, 1, z, day);
-                }
+            for (int day = Math.max(0, a); day <= b && day < DAYS; day++) {
+                odds[day] = forecast.ofShakes(day - 1, p, 1, z, day, day);
+                shakes[day] = book.howManySuch(p, 1, z, day);
             }
         }
 
@@ -1280,10 +1278,8 @@ public final class ToadsBefore {
             left = 0;
             inVain = 0;
             met = 0;
-            for (int day = a; day <= b; day++) {
-                if (isDay(day)) {
-                    liveThrough(day, line);
-                }
+            for (int day = Math.max(0, a); day <= b && day < DAYS; day++) {
+                liveThrough(day, line);
             }
             cost = left * costOfLeaving + met * costOfShake;
         }

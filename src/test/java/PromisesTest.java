@@ -31,6 +31,8 @@ public final class PromisesTest {
         seed();
         promise = 10;
         run();
+        runBesideItsDraws();
+        runAtItsLines();
         runAtTheEnds();
         promise = 11;
         about();
@@ -193,6 +195,15 @@ public final class PromisesTest {
         faults("rategrow 5;", 1, 0);
         faults("raTe 5;", 1, 0);
         faults("rateX 5;", 1, 4);
+        faults("ratez 5;", 1, 0);
+        faults("arate 5;", 1, 0);
+        faults("year 5;", 1, 0);
+        faults("moan 5 to 6;", 1, 0);
+        faults("moon 5 so 6;", 1, 7);
+        faults("rate{5;", 1, 4);
+        faults("rate`5;", 1, 4);
+        faults("rate 5/", 1, 6);
+        faults("rate 5:;", 1, 6);
         faults("rate x;", 1, 5);
         faults("rate to 5;", 1, 5);
         faults("rate 5 6;", 1, 7);
@@ -412,6 +423,92 @@ public final class PromisesTest {
         due("run(1)", z.run(1), 1);
         int[] corner = {54, 55, 62, 63};
         due("about(1, 1)", z.about(1, 1), corner[(int) (seedBehind(815, 3) / 65536 % 4)]);
+    }
+
+    /** For many seeds: the main SHAKE, its PLACE and SIZE, then one that follows two DAYS behind an older one. */
+    private static void runBesideItsDraws() {
+        for (int s = 0; s < 300; s++) {
+            int v = s * 7158273;
+            ToadsBefore x = new ToadsBefore();
+            x.shake(1, 1, 2);
+            x.seed(v);
+            Check.tell(x, "rate 0;after 0;days 1;");
+            x.run(1);
+            Check.tell(x, "rate 500;grow 55;after 501;days 3;near 2;");
+            int start = (int) seedBehind(v, 2);
+            due("seed", x.seed(start), start);
+            int came = x.run(1);
+            drawn = start;
+            int want = 0;
+            if (drawnOf(1000) < 500) {
+                want = 1;
+                due("its PLACE", x.about(1, 1), drawnOf(64));
+                due("its SIZE", x.about(1, 2), drawnSize(55));
+            }
+            // 501 times 2 / 2; around PLACE 1 by 2: four in each of three rows.
+            if (drawnOf(1000) < 501) {
+                want++;
+                int index = drawnOf(12);
+                due("the PLACE of one after", x.about(want, 1), index / 4 * 8 + index % 4);
+                due("the SIZE of one after", x.about(want, 2), drawnSize(55));
+            }
+            due("run(1) by seed " + v, came, want);
+            due("seed", x.seed(0), drawn);
+        }
+    }
+
+    private static long drawn;
+
+    private static int drawnOf(int n) {
+        drawn = seedBehind(drawn, 1);
+        return (int) (drawn / 65536 % n);
+    }
+
+    private static int drawnSize(int grow) {
+        int size = 1;
+        while (size < 9 && drawnOf(100) < grow) {
+            size++;
+        }
+        return size;
+    }
+
+    private static int runOnce(String law, int v) {
+        ToadsBefore x = new ToadsBefore();
+        Check.tell(x, law);
+        x.seed(v);
+        return x.run(1);
+    }
+
+    private static int runBehind(String law, int v) {
+        ToadsBefore x = new ToadsBefore();
+        Check.tell(x, law);
+        x.shake(0, 20, 1);
+        x.seed(v);
+        return x.run(1);
+    }
+
+    /** A DRAW must be below, and is not enough if it is the same. */
+    private static void runAtItsLines() {
+        for (int v = 1; v < 40; v++) {
+            int first = (int) (seedBehind(v, 1) / 65536 % 1000);
+            int second = (int) (seedBehind(v, 2) / 65536 % 1000);
+            if (first > 0 && first < 998) {
+                due("run(1), a DRAW as R", runOnce("rate " + first + ";", v), 0);
+                due("run(1), a DRAW below R", runOnce("rate " + (first + 1) + ";", v), 1);
+            }
+            if (second < 998) {
+                due("run(1), a DRAW as A", runBehind("rate 0;after " + second + ";", v), 0);
+                due("run(1), a DRAW below A", runBehind("rate 0;after " + (second + 1) + ";", v), 1);
+            }
+            int third = (int) (seedBehind(v, 3) / 65536 % 100);
+            if (first < 999 && third < 99) {
+                ToadsBefore x = new ToadsBefore();
+                Check.tell(x, "rate 999;grow " + third + ";");
+                x.seed(v);
+                x.run(1);
+                due("about(0, 2), a DRAW as G", x.about(0, 2), 1);
+            }
+        }
     }
 
     private static void runAtTheEnds() {
@@ -692,6 +789,11 @@ public final class PromisesTest {
         due("rate(0, 1)", x.rate(0, 1), 0);
         x.watch(0, 5, 1, 1);
         due("rate(0, 0)", x.rate(0, 0), 1000000);
+        x.watch(3, 5, 0, 3);
+        x.sign(3, 0, 5, 0);
+        due("rate(3, 0)", x.rate(3, 0), 250000);
+        x.watch(3, 6, 0, 3);
+        due("rate(3, 0) elsewhere", x.rate(3, 0), 0);
     }
 
     private static void window() {
@@ -782,6 +884,11 @@ public final class PromisesTest {
         x.watch(0, 27, 0, 399);
         due("the last DAYS have no DAYS behind them", x.table(0, 60, 7, 1, 3), 340 - 20);
         due("a SHAKE on its DAY is not behind it", x.table(0, 1, 0, 3, 0), 0);
+        ToadsBefore y = new ToadsBefore();
+        y.watch(0, 27, 0, 1);
+        y.shake(1, 28, 1);
+        tables(y, 1, 1, 1, 0, 0, 1, 0, -1000);
+        tables(y, 1, 0, 1, 0, 0, 0, 1, 0);
         x.watch(0, 30, 100, 110);
         tables(x, 5, 7, 1, 0, 0, 0, 6, 0);
     }
@@ -893,6 +1000,12 @@ public final class PromisesTest {
         due("score(-1, 3)", x.score(-1, 3), UNKNOWN);
         Check.tell(x, "rate 999;");
         due("ALONE by THE LAW as it is now", x.score(2, 1), 1);
+        ToadsBefore y = new ToadsBefore();
+        y.claim(0, 27, 7, 1, 1, 1, 0);
+        due("ALONE: 20000 / 10000", y.score(0, 1), 2);
+        Check.tell(y, "rate 999;");
+        y.claim(0, 27, 7, 1, 1, 2, 0);
+        due("ALONE: 999999 / 10000", y.score(1, 1), 99);
     }
 
     private static void scores() {
@@ -957,6 +1070,7 @@ public final class PromisesTest {
         due("b 400", x.town(0, 1, 1, 1, 0, 1, 400, 0), OUTSIDE);
         due("what 4", x.town(0, 1, 1, 1, 0, 1, 1, 4), OUTSIDE);
         due("what -1", x.town(0, 1, 1, 1, 0, 1, 1, -1), OUTSIDE);
+        due("the least costs", x.town(0, 1, 1, 1, 0, 1, 1, 3), 1);
         due("the greatest", x.town(0, 1, 999, 9999, 0, 1, 399, 3), 399 * 999);
     }
 
@@ -1027,6 +1141,10 @@ public final class PromisesTest {
         lakes(x, 1000, 1000, 999999, 1, NONE, NONE);
         lakes(x, 100, 500, 50000, 900000, 12, 4);
         lakes(x, 1000, 0, 0, 0, NONE, NONE);
+        // t is always right, so c may be n: the sixtieth year is the last that may be needed.
+        int last = x.luck(60, 900, 60);
+        lakes(x, 900, 1000, last, 1000000, 60, 60);
+        lakes(x, 900, 1000, last - 1, 1000000, NONE, NONE);
         // A year alone: c 1 has LUCK 300000 and 800000.
         lakes(x, 300, 800, 300000, 800000, 1, 1);
         lakes(x, 300, 800, 300000, 800001, 3, 2);
@@ -1086,6 +1204,10 @@ public final class PromisesTest {
         judgedAs(x, 1);
         Check.tell(x, "rate 64;after 82;");
         judgedAs(x, 2);
+        // At R 239, A 313 the one is 336090, the other 33609: ten times, and no more.
+        Check.tell(x, "rate 239;after 313;");
+        due("odds", x.odds(10, 27, 1, 1, 11, 11), 336090);
+        judgedAs(x, 1);
         Check.tell(x, "rate 64;after 0;");
         judgedAs(x, 0);
         Check.tell(x, "rate 0;after 0;");

@@ -113,10 +113,7 @@ public final class RulesTest {
         for (String word : banned) {
             CHECK.holds("the code has no " + word, !code.contains(word));
         }
-        for (int i = 0; i < source.length(); i++) {
-            char sign = source.charAt(i);
-            CHECK.holds("signs are of ASCII", sign == '\n' || sign >= 32 && sign < 127);
-        }
+        CHECK.holds("signs are of ASCII", source.matches("(?s)[\n -~]*+"));
         Matcher library = Pattern.compile("\\b(Math|Integer|Long|System|Arrays|String)\\.(\\w+)").matcher(code);
         Set<String> allowed = Set.of("Math.max", "Math.min", "Math.abs", "Integer.compare", "System.arraycopy");
         while (library.find()) {
