@@ -1,6 +1,10 @@
 /** Counts answers that are not due, and tells each. */
 final class Check {
+    static final int NONE = -1, UNKNOWN = -1001, OUTSIDE = -1002, NOT = -1003, FULL = -1004;
+    static final int HUGE = Integer.MAX_VALUE, TINY = Integer.MIN_VALUE;
+
     private final String name;
+    private String sentence = "";
     private int asked = 0;
     private int wrong = 0;
 
@@ -8,11 +12,16 @@ final class Check {
         this.name = name;
     }
 
+    /** The words of the document that the next answers are held against. */
+    void sentence(String words) {
+        sentence = "\"" + words + "\": ";
+    }
+
     void due(String call, long got, long want) {
         asked++;
         if (got != want) {
             wrong++;
-            System.out.println(name + ": " + call + " answered " + got + ", due is " + want);
+            System.out.println(name + ": " + sentence + call + " answered " + got + ", due is " + want);
         }
     }
 
@@ -20,11 +29,22 @@ final class Check {
         due(what, is ? 1 : 0, 1);
     }
 
+    void same(String what, String got, String want) {
+        holds(what + " is " + got + ", due is " + want, got.equals(want));
+    }
+
     void finish() {
         System.out.println(name + ": " + asked + " answers, " + wrong + " not as due");
         if (wrong != 0) {
             System.exit(1);
         }
+    }
+
+    /** A new object with a text as THE LAW. */
+    static ToadsBefore land(String law) {
+        ToadsBefore land = new ToadsBefore();
+        tell(land, law);
+        return land;
     }
 
     /** Feeds a text eight bytes at a time and makes it THE LAW: what law() answered. */

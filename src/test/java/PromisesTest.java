@@ -1,7 +1,7 @@
-/** Promise by promise: ordinary inputs, the edges that the document names, wrong inputs. */
+/** Promise by promise, with answers that were found by hand. Bounds of arguments: RefusalsTest; edges: the EdgesTests. */
 public final class PromisesTest {
-    private static final int NONE = -1, UNKNOWN = -1001, OUTSIDE = -1002, NOT = -1003, FULL = -1004;
-    private static final int HUGE = Integer.MAX_VALUE, TINY = Integer.MIN_VALUE;
+    private static final int NONE = Check.NONE, UNKNOWN = Check.UNKNOWN, OUTSIDE = Check.OUTSIDE, NOT = Check.NOT,
+        FULL = Check.FULL, HUGE = Check.HUGE, TINY = Check.TINY;
     private static final Check CHECK = new Check("PromisesTest");
 
     private static int promise;
@@ -40,7 +40,6 @@ public final class PromisesTest {
         count();
         promise = 13;
         odds();
-        oddsWrong();
         promise = 14;
         watch();
         promise = 15;
@@ -59,7 +58,6 @@ public final class PromisesTest {
         chance();
         promise = 21;
         table();
-        tableWrong();
         promise = 22;
         story();
         promise = 23;
@@ -70,7 +68,6 @@ public final class PromisesTest {
         scores();
         promise = 26;
         town();
-        townWrong();
         promise = 27;
         bestLine();
         promise = 28;
@@ -291,12 +288,6 @@ public final class PromisesTest {
         due("cells(36, 4)", x.cells(36, 4), 64);
         due("cells(36, 7)", x.cells(36, 7), 64);
         due("cells(63, 6)", x.cells(63, 6), 49);
-        due("cells(64, 0)", x.cells(64, 0), UNKNOWN);
-        due("cells(-1, 0)", x.cells(-1, 0), UNKNOWN);
-        due("cells(64, 8)", x.cells(64, 8), UNKNOWN);
-        due("cells(0, 8)", x.cells(0, 8), OUTSIDE);
-        due("cells(0, -1)", x.cells(0, -1), OUTSIDE);
-        due("cells(0, huge)", x.cells(0, HUGE), OUTSIDE);
     }
 
     private static void greater() {
@@ -310,10 +301,6 @@ public final class PromisesTest {
         due("law()", Check.tell(x, "grow 0;"), 1);
         due("greater(1)", x.greater(1), 1000000);
         due("greater(2)", x.greater(2), 0);
-        due("greater(0)", x.greater(0), OUTSIDE);
-        due("greater(10)", x.greater(10), OUTSIDE);
-        due("greater(tiny)", x.greater(TINY), OUTSIDE);
-        due("greater(huge)", x.greater(HUGE), OUTSIDE);
     }
 
     private static void shake() {
@@ -355,27 +342,18 @@ public final class PromisesTest {
         due("seed(0)", x.seed(0), 0);
     }
 
-    /** THE SEED as the document says that it becomes, n DRAWS behind v. */
-    private static long seedBehind(long v, int draws) {
-        long seed = v;
-        for (int i = 0; i < draws; i++) {
-            seed = Math.floorMod(seed * 1103515245L + 12345L, 2147483648L);
-        }
-        return seed;
-    }
-
     private static void run() {
         ToadsBefore x = new ToadsBefore();
         // Never a SHAKE: one DRAW each DAY.
         Check.tell(x, "rate 0;");
         due("run(3)", x.run(3), 0);
         due("count(4)", x.count(4), 3);
-        due("seed", x.seed(77), seedBehind(0, 3));
+        due("seed", x.seed(77), Draws.seedBehind(0, 3));
         // A SHAKE of an earlier DAY draws once a DAY, D DAYS long, also if A is 0.
         Check.tell(x, "rate 0;after 0;days 2;");
         due("shake(3, 9, 1)", x.shake(3, 9, 1), 0);
         due("run(5)", x.run(5), 0);
-        due("seed", x.seed(77), seedBehind(77, 7));
+        due("seed", x.seed(77), Draws.seedBehind(77, 7));
         due("count(4)", x.count(4), 8);
         // After each SHAKE another on the next DAY: 1000 DRAWS below 999 times 9.
         ToadsBefore y = new ToadsBefore();
@@ -386,7 +364,7 @@ public final class PromisesTest {
         due("about(1, 1): N is 0", y.about(1, 1), 33);
         due("about(1, 2): G is 0", y.about(1, 2), 1);
         // By hand: the main DRAW, that of the SHAKE, the PLACE, the SIZE.
-        due("seed", y.seed(0), seedBehind(0, 4));
+        due("seed", y.seed(0), Draws.seedBehind(0, 4));
         placesAndSizes();
     }
 
@@ -395,18 +373,11 @@ public final class PromisesTest {
         Check.tell(x, "rate 999;grow 99;after 0;days 1;");
         x.seed(12345);
         due("run(1)", x.run(1), 1);
-        due("about(0, 1): the second DRAW", x.about(0, 1), seedBehind(12345, 2) / 65536 % 64);
-        int size = 1;
-        int draws = 2;
-        while (size < 9) {
-            draws++;
-            if (seedBehind(12345, draws) / 65536 % 100 >= 99) {
-                break;
-            }
-            size++;
-        }
-        due("about(0, 2)", x.about(0, 2), size);
-        due("seed", x.seed(0), seedBehind(12345, draws));
+        Draws draws = new Draws(12345);
+        draws.of(1000);
+        due("about(0, 1): the second DRAW", x.about(0, 1), draws.of(64));
+        due("about(0, 2)", x.about(0, 2), draws.size(99));
+        due("seed", x.seed(0), draws.seed());
         // The PLACE of one that follows: among nine PLACES around 27, in order.
         ToadsBefore y = new ToadsBefore();
         Check.tell(y, "rate 0;grow 0;after 999;days 1;near 1;");
@@ -414,7 +385,7 @@ public final class PromisesTest {
         y.seed(4711);
         due("run(1)", y.run(1), 1);
         int[] around = {18, 19, 20, 26, 27, 28, 34, 35, 36};
-        due("about(1, 1)", y.about(1, 1), around[(int) (seedBehind(4711, 3) / 65536 % 9)]);
+        due("about(1, 1)", y.about(1, 1), around[Draws.last(4711, 3, 9)]);
         // In a corner four PLACES remain.
         ToadsBefore z = new ToadsBefore();
         Check.tell(z, "rate 0;grow 0;after 999;days 1;near 1;");
@@ -422,7 +393,7 @@ public final class PromisesTest {
         z.seed(815);
         due("run(1)", z.run(1), 1);
         int[] corner = {54, 55, 62, 63};
-        due("about(1, 1)", z.about(1, 1), corner[(int) (seedBehind(815, 3) / 65536 % 4)]);
+        due("about(1, 1)", z.about(1, 1), corner[Draws.last(815, 3, 4)]);
     }
 
     /** For many seeds: the main SHAKE, its PLACE and SIZE, then one that follows two DAYS behind an older one. */
@@ -435,41 +406,26 @@ public final class PromisesTest {
             Check.tell(x, "rate 0;after 0;days 1;");
             x.run(1);
             Check.tell(x, "rate 500;grow 55;after 501;days 3;near 2;");
-            int start = (int) seedBehind(v, 2);
+            int start = (int) Draws.seedBehind(v, 2);
             due("seed", x.seed(start), start);
             int came = x.run(1);
-            drawn = start;
+            Draws draws = new Draws(start);
             int want = 0;
-            if (drawnOf(1000) < 500) {
+            if (draws.of(1000) < 500) {
                 want = 1;
-                due("its PLACE", x.about(1, 1), drawnOf(64));
-                due("its SIZE", x.about(1, 2), drawnSize(55));
+                due("its PLACE", x.about(1, 1), draws.of(64));
+                due("its SIZE", x.about(1, 2), draws.size(55));
             }
             // 501 times 2 / 2; around PLACE 1 by 2: four in each of three rows.
-            if (drawnOf(1000) < 501) {
+            if (draws.of(1000) < 501) {
                 want++;
-                int index = drawnOf(12);
+                int index = draws.of(12);
                 due("the PLACE of one after", x.about(want, 1), index / 4 * 8 + index % 4);
-                due("the SIZE of one after", x.about(want, 2), drawnSize(55));
+                due("the SIZE of one after", x.about(want, 2), draws.size(55));
             }
             due("run(1) by seed " + v, came, want);
-            due("seed", x.seed(0), drawn);
+            due("seed", x.seed(0), draws.seed());
         }
-    }
-
-    private static long drawn;
-
-    private static int drawnOf(int n) {
-        drawn = seedBehind(drawn, 1);
-        return (int) (drawn / 65536 % n);
-    }
-
-    private static int drawnSize(int grow) {
-        int size = 1;
-        while (size < 9 && drawnOf(100) < grow) {
-            size++;
-        }
-        return size;
     }
 
     private static int runOnce(String law, int v) {
@@ -490,8 +446,8 @@ public final class PromisesTest {
     /** A DRAW must be below, and is not enough if it is the same. */
     private static void runAtItsLines() {
         for (int v = 1; v < 40; v++) {
-            int first = (int) (seedBehind(v, 1) / 65536 % 1000);
-            int second = (int) (seedBehind(v, 2) / 65536 % 1000);
+            int first = Draws.last(v, 1, 1000);
+            int second = Draws.last(v, 2, 1000);
             if (first > 0 && first < 998) {
                 due("run(1), a DRAW as R", runOnce("rate " + first + ";", v), 0);
                 due("run(1), a DRAW below R", runOnce("rate " + (first + 1) + ";", v), 1);
@@ -500,7 +456,7 @@ public final class PromisesTest {
                 due("run(1), a DRAW as A", runBehind("rate 0;after " + second + ";", v), 0);
                 due("run(1), a DRAW below A", runBehind("rate 0;after " + (second + 1) + ";", v), 1);
             }
-            int third = (int) (seedBehind(v, 3) / 65536 % 100);
+            int third = Draws.last(v, 3, 100);
             if (first < 999 && third < 99) {
                 ToadsBefore x = new ToadsBefore();
                 Check.tell(x, "rate 999;grow " + third + ";");
@@ -522,7 +478,7 @@ public final class PromisesTest {
         due("run(398)", x.run(398), 0);
         due("run(399), to 399 at most", x.run(399), 0);
         due("count(4)", x.count(4), 399);
-        due("seed", x.seed(0), seedBehind(0, 399));
+        due("seed", x.seed(0), Draws.seedBehind(0, 399));
         due("run(1) on the last DAY", x.run(1), 0);
         due("seed", x.seed(0), 0);
         // THE BOOK of 60 ends a RUN on that DAY, at once.
@@ -534,7 +490,7 @@ public final class PromisesTest {
         due("run(9)", y.run(9), 2);
         due("count(0)", y.count(0), 60);
         due("count(4)", y.count(4), 8);
-        due("seed: one DRAW, then three for each of two", y.seed(1), seedBehind(0, 7));
+        due("seed: one DRAW, then three for each of two", y.seed(1), Draws.seedBehind(0, 7));
         due("run(9)", y.run(9), FULL);
         due("run(0)", y.run(0), OUTSIDE);
         due("count(4) stays", y.count(4), 8);
@@ -611,26 +567,6 @@ public final class PromisesTest {
         due("and its share by SIZE", x.odds(10, 27, 7, 2, 11, 11), 640000);
         Check.tell(x, "rate 999;grow 99;");
         due("odds(398, .., 399, 399)", x.odds(398, 0, 7, 1, 399, 399), 999000);
-    }
-
-    private static void oddsWrong() {
-        ToadsBefore x = new ToadsBefore();
-        due("PLACE 64", x.odds(0, 64, 0, 1, 1, 1), UNKNOWN);
-        due("PLACE -1, all else wrong", x.odds(-1, -1, 8, 0, 0, -1), UNKNOWN);
-        due("d -1", x.odds(-1, 0, 0, 1, 1, 1), OUTSIDE);
-        due("d 399", x.odds(399, 0, 0, 1, 399, 399), OUTSIDE);
-        due("d 400", x.odds(400, 0, 0, 1, 401, 401), OUTSIDE);
-        due("m -1", x.odds(0, 0, -1, 1, 1, 1), OUTSIDE);
-        due("m 8", x.odds(0, 0, 8, 1, 1, 1), OUTSIDE);
-        due("z 0", x.odds(0, 0, 0, 0, 1, 1), OUTSIDE);
-        due("z 10", x.odds(0, 0, 0, 10, 1, 1), OUTSIDE);
-        due("a is d", x.odds(5, 0, 0, 1, 5, 6), OUTSIDE);
-        due("a below d", x.odds(5, 0, 0, 1, 4, 6), OUTSIDE);
-        due("b below a", x.odds(0, 0, 0, 1, 2, 1), OUTSIDE);
-        due("b 400", x.odds(0, 0, 0, 1, 2, 400), OUTSIDE);
-        due("b huge", x.odds(0, 0, 0, 1, 2, HUGE), OUTSIDE);
-        due("a tiny", x.odds(0, 0, 0, 1, TINY, 2), OUTSIDE);
-        due("all DAYS", x.odds(0, 0, 0, 9, 1, 399), 0);
     }
 
     private static void watch() {
@@ -816,14 +752,6 @@ public final class PromisesTest {
         due("window(0, 60, 7, 255)", x.window(0, 60, 7, 255), 4);
         due("window(0, 60, 7, 64)", x.window(0, 60, 7, 64), 0);
         due("window(0, 59, 7, 128)", x.window(0, 59, 7, 128), 0);
-        due("window(1, 1, 0, 1)", x.window(1, 1, 0, 1), UNKNOWN);
-        due("window(-1, 0, 8, 256)", x.window(-1, 0, 8, 256), UNKNOWN);
-        due("window(0, 0, 0, 1)", x.window(0, 0, 0, 1), OUTSIDE);
-        due("window(0, 61, 0, 1)", x.window(0, 61, 0, 1), OUTSIDE);
-        due("window(0, 1, -1, 1)", x.window(0, 1, -1, 1), OUTSIDE);
-        due("window(0, 1, 8, 1)", x.window(0, 1, 8, 1), OUTSIDE);
-        due("window(0, 1, 0, -1)", x.window(0, 1, 0, -1), OUTSIDE);
-        due("window(0, 1, 0, 256)", x.window(0, 1, 0, 256), OUTSIDE);
         ToadsBefore y = new ToadsBefore();
         y.shake(0, 0, 1);
         y.sign(0, 0, 0, 0);
@@ -849,10 +777,6 @@ public final class PromisesTest {
         x.sign(7, 0, 9, 0);
         due("chance(1, 128)", x.chance(1, 128), 1000000);
         due("chance(60, 131)", x.chance(60, 131), 1000000);
-        due("chance(0, 1)", x.chance(0, 1), OUTSIDE);
-        due("chance(61, 4)", x.chance(61, 4), OUTSIDE);
-        due("chance(1, -1)", x.chance(1, -1), OUTSIDE);
-        due("chance(1, 256)", x.chance(1, 256), OUTSIDE);
         due("chance(60, 255)", x.chance(60, 255), NOT);
     }
 
@@ -893,24 +817,6 @@ public final class PromisesTest {
         tables(x, 5, 7, 1, 0, 0, 0, 6, 0);
     }
 
-    private static void tableWrong() {
-        ToadsBefore x = new ToadsBefore();
-        due("not COUNTED", x.table(0, 1, 0, 1, 0), NOT);
-        x.watch(0, 1, 5, 6);
-        due("COUNTED on two DAYS", x.table(0, 1, 0, 1, 3), 1);
-        due("w 2", x.table(0, 2, 0, 1, 3), NOT);
-        due("KIND 8", x.table(8, 0, 8, 0, 5), UNKNOWN);
-        due("KIND -1", x.table(-1, 1, 0, 1, 0), UNKNOWN);
-        due("w 0", x.table(0, 0, 0, 1, 0), OUTSIDE);
-        due("w 61", x.table(1, 61, 0, 1, 0), OUTSIDE);
-        due("m 8", x.table(0, 1, 8, 1, 0), OUTSIDE);
-        due("m -1", x.table(0, 1, -1, 1, 0), OUTSIDE);
-        due("z 0", x.table(0, 1, 0, 0, 0), OUTSIDE);
-        due("z 10", x.table(0, 1, 0, 10, 0), OUTSIDE);
-        due("i 5", x.table(0, 1, 0, 1, 5), OUTSIDE);
-        due("i -1", x.table(0, 1, 0, 1, -1), OUTSIDE);
-    }
-
     private static void story() {
         ToadsBefore x = new ToadsBefore();
         due("story(0, 1, 0)", x.story(0, 1, 0), NOT);
@@ -935,11 +841,6 @@ public final class PromisesTest {
         due("story(0, 0, 5)", x.story(0, 0, 5), 0);
         x.sign(1, 10, 2, 10);
         due("story(0, 1, 1): ODD on the DAY itself", x.story(0, 1, 1), 1);
-        due("story(8, 1, 61)", x.story(8, 1, 61), UNKNOWN);
-        due("story(0, -1, 0)", x.story(0, -1, 0), UNKNOWN);
-        due("story(0, 1, 61)", x.story(0, 1, 61), OUTSIDE);
-        due("story(0, 1, -1)", x.story(0, 1, -1), OUTSIDE);
-        due("story(2, 3, -1)", x.story(2, 3, -1), OUTSIDE);
         x.watch(1, 2, -1, 0);
         due("story(0, 1, 0)", x.story(0, 1, 0), NOT);
     }
@@ -948,24 +849,11 @@ public final class PromisesTest {
         ToadsBefore x = new ToadsBefore();
         due("claim", x.claim(0, 0, 0, 1, 1, 1, 0), 0);
         due("claim", x.claim(398, 63, 7, 9, 399, 399, 100), 1);
-        due("PLACE 64", x.claim(5, 64, 8, 0, 1, 1, 101), UNKNOWN);
-        due("PLACE -1", x.claim(0, -1, 0, 1, 1, 1, 0), UNKNOWN);
-        due("t -1", x.claim(-1, 0, 0, 1, 1, 1, 0), OUTSIDE);
-        due("t is a", x.claim(1, 0, 0, 1, 1, 1, 0), OUTSIDE);
-        due("b below a", x.claim(0, 0, 0, 1, 2, 1, 0), OUTSIDE);
-        due("b 400", x.claim(0, 0, 0, 1, 2, 400, 0), OUTSIDE);
-        due("m -1", x.claim(0, 0, -1, 1, 1, 1, 0), OUTSIDE);
-        due("m 8", x.claim(0, 0, 8, 1, 1, 1, 0), OUTSIDE);
-        due("z 0", x.claim(0, 0, 0, 0, 1, 1, 0), OUTSIDE);
-        due("z 10", x.claim(0, 0, 0, 10, 1, 1, 0), OUTSIDE);
-        due("q -1", x.claim(0, 0, 0, 1, 1, 1, -1), OUTSIDE);
-        due("q 101", x.claim(0, 0, 0, 1, 1, 1, 101), OUTSIDE);
         due("count(2)", x.count(2), 2);
         for (int c = 2; c < 12; c++) {
             due("claim", x.claim(0, 0, 0, 1, 1, 1, 0), c);
         }
         due("claim", x.claim(0, 0, 0, 1, 1, 1, 0), FULL);
-        due("claim", x.claim(0, 0, 0, 1, 1, 1, 101), OUTSIDE);
         due("count(2)", x.count(2), 12);
     }
 
@@ -994,10 +882,6 @@ public final class PromisesTest {
         x.claim(8, 27, 0, 1, 9, 9, 0);
         due("HIT on its first and last DAY", x.score(2, 0), 0);
         due("SCORE", x.score(2, 2), 0);
-        due("score(0, 3)", x.score(0, 3), OUTSIDE);
-        due("score(0, -1)", x.score(0, -1), OUTSIDE);
-        due("score(3, 0)", x.score(3, 0), UNKNOWN);
-        due("score(-1, 3)", x.score(-1, 3), UNKNOWN);
         Check.tell(x, "rate 999;");
         due("ALONE by THE LAW as it is now", x.score(2, 1), 1);
         ToadsBefore y = new ToadsBefore();
@@ -1052,28 +936,6 @@ public final class PromisesTest {
         towns(x, 1, sixth + 1, 6, 6, 0, 0, 2, 200);
     }
 
-    private static void townWrong() {
-        ToadsBefore x = new ToadsBefore();
-        due("PLACE 64", x.town(64, 0, 0, 0, -1, 0, 0, 4), UNKNOWN);
-        due("PLACE -1", x.town(-1, 1, 1, 1, 0, 1, 1, 0), UNKNOWN);
-        due("z 0", x.town(0, 0, 1, 1, 0, 1, 1, 0), OUTSIDE);
-        due("z 10", x.town(0, 10, 1, 1, 0, 1, 1, 0), OUTSIDE);
-        due("l 0", x.town(0, 1, 0, 1, 0, 1, 1, 0), OUTSIDE);
-        due("l 1000", x.town(0, 1, 1000, 1, 0, 1, 1, 0), OUTSIDE);
-        due("h 0", x.town(0, 1, 1, 0, 0, 1, 1, 0), OUTSIDE);
-        due("h 10000", x.town(0, 1, 1, 10000, 0, 1, 1, 0), OUTSIDE);
-        due("LINE -1", x.town(0, 1, 1, 1, -1, 1, 1, 0), OUTSIDE);
-        due("LINE 1000002", x.town(0, 1, 1, 1, 1000002, 1, 1, 0), OUTSIDE);
-        due("a 0", x.town(0, 1, 1, 1, 0, 0, 1, 0), OUTSIDE);
-        due("a 400", x.town(0, 1, 1, 1, 0, 400, 400, 0), OUTSIDE);
-        due("b below a", x.town(0, 1, 1, 1, 0, 2, 1, 0), OUTSIDE);
-        due("b 400", x.town(0, 1, 1, 1, 0, 1, 400, 0), OUTSIDE);
-        due("what 4", x.town(0, 1, 1, 1, 0, 1, 1, 4), OUTSIDE);
-        due("what -1", x.town(0, 1, 1, 1, 0, 1, 1, -1), OUTSIDE);
-        due("the least costs", x.town(0, 1, 1, 1, 0, 1, 1, 3), 1);
-        due("the greatest", x.town(0, 1, 999, 9999, 0, 1, 399, 3), 399 * 999);
-    }
-
     private static void bestLine() {
         ToadsBefore x = new ToadsBefore();
         // No SHAKE and no reason to leave: the least LINE above all ODDS; 2812 is below 3000.
@@ -1088,18 +950,6 @@ public final class PromisesTest {
         // Each DAY behind the SHAKE has ODDS above 50000: only a MILLION and one keeps the TOWN from leaving in vain.
         Check.tell(x, "rate 0;after 999;");
         due("a MILLION and one", x.bestLine(27, 1, 20, 10, 6, 15), 1000001);
-        due("PLACE 64", x.bestLine(64, 0, 0, 0, 0, 0), UNKNOWN);
-        due("PLACE -1", x.bestLine(-1, 1, 1, 1, 1, 1), UNKNOWN);
-        due("z 0", x.bestLine(0, 0, 1, 1, 1, 1), OUTSIDE);
-        due("z 10", x.bestLine(0, 10, 1, 1, 1, 1), OUTSIDE);
-        due("l 0", x.bestLine(0, 1, 0, 1, 1, 1), OUTSIDE);
-        due("l 1000", x.bestLine(0, 1, 1000, 1, 1, 1), OUTSIDE);
-        due("h 0", x.bestLine(0, 1, 1, 0, 1, 1), OUTSIDE);
-        due("h 10000", x.bestLine(0, 1, 1, 10000, 1, 1), OUTSIDE);
-        due("a 0", x.bestLine(0, 1, 1, 1, 0, 1), OUTSIDE);
-        due("b below a", x.bestLine(0, 1, 1, 1, 2, 1), OUTSIDE);
-        due("b 400", x.bestLine(0, 1, 1, 1, 1, 400), OUTSIDE);
-        due("a 400", x.bestLine(0, 1, 1, 1, 400, 400), OUTSIDE);
     }
 
     private static void luck() {
@@ -1112,14 +962,7 @@ public final class PromisesTest {
         due("luck(200, 1000, 200)", x.luck(200, 1000, 200), 1000000);
         due("luck(200, 0, 0)", x.luck(200, 0, 0), 1000000);
         due("luck(200, 0, 1)", x.luck(200, 0, 1), 0);
-        due("luck(0, 1, 0)", x.luck(0, 1, 0), OUTSIDE);
-        due("luck(201, 1, 0)", x.luck(201, 1, 0), OUTSIDE);
-        due("luck(5, -1, 0)", x.luck(5, -1, 0), OUTSIDE);
-        due("luck(5, 1001, 0)", x.luck(5, 1001, 0), OUTSIDE);
-        due("luck(5, 1, -1)", x.luck(5, 1, -1), OUTSIDE);
-        due("luck(5, 1, 6)", x.luck(5, 1, 6), OUTSIDE);
         due("luck(5, 1000, 5)", x.luck(5, 1000, 5), 1000000);
-        due("luck(huge, 1, 1)", x.luck(HUGE, 1, 1), OUTSIDE);
     }
 
     private static void lakes(ToadsBefore x, int r, int t, int most, int least, int... want) {
@@ -1148,34 +991,17 @@ public final class PromisesTest {
         // A year alone: c 1 has LUCK 300000 and 800000.
         lakes(x, 300, 800, 300000, 800000, 1, 1);
         lakes(x, 300, 800, 300000, 800001, 3, 2);
-        due("r -1", x.lake(-1, 0, 0, 0, 0), OUTSIDE);
-        due("r 1001", x.lake(1001, 0, 0, 0, 0), OUTSIDE);
-        due("t -1", x.lake(0, -1, 0, 0, 0), OUTSIDE);
-        due("t 1001", x.lake(0, 1001, 0, 0, 0), OUTSIDE);
-        due("x -1", x.lake(0, 0, -1, 0, 0), OUTSIDE);
-        due("x 1000001", x.lake(0, 0, 1000001, 0, 0), OUTSIDE);
-        due("y -1", x.lake(0, 0, 0, -1, 0), OUTSIDE);
-        due("y 1000001", x.lake(0, 0, 0, 1000001, 0), OUTSIDE);
-        due("what 2", x.lake(0, 0, 0, 0, 2), OUTSIDE);
-        due("what -1", x.lake(0, 0, 0, 0, -1), OUTSIDE);
     }
 
     private static void say() {
         ToadsBefore x = new ToadsBefore();
         due("say(0, 0, 0)", x.say(0, 0, 0), 0);
         due("say(398, 63, 2)", x.say(398, 63, 2), 1);
-        due("say(399, 64, 3)", x.say(399, 64, 3), UNKNOWN);
-        due("say(0, -1, 0)", x.say(0, -1, 0), UNKNOWN);
-        due("say(399, 0, 0)", x.say(399, 0, 0), OUTSIDE);
-        due("say(-1, 0, 0)", x.say(-1, 0, 0), OUTSIDE);
-        due("say(0, 0, 3)", x.say(0, 0, 3), OUTSIDE);
-        due("say(0, 0, -1)", x.say(0, 0, -1), OUTSIDE);
         due("count(3)", x.count(3), 2);
         for (int i = 2; i < 12; i++) {
             due("say(5, 5, 1)", x.say(5, 5, 1), i);
         }
         due("say(5, 5, 1)", x.say(5, 5, 1), FULL);
-        due("say(5, 5, 3)", x.say(5, 5, 3), OUTSIDE);
         due("count(3)", x.count(3), 12);
     }
 
@@ -1217,25 +1043,6 @@ public final class PromisesTest {
         x.shake(11, 27, 9);
         Check.tell(x, "rate 64;after 9;");
         judgedAs(x, 0);
-        judgedWrong();
-    }
-
-    private static void judgedWrong() {
-        ToadsBefore x = new ToadsBefore();
-        x.say(339, 0, 0);
-        x.say(398, 0, 2);
-        due("n 60 to DAY 399", x.judged(0, 1, 60, 0), 0);
-        due("n 61", x.judged(0, 1, 61, 0), OUTSIDE);
-        due("n 0", x.judged(0, 1, 0, 0), OUTSIDE);
-        due("n 1", x.judged(1, 1, 1, 1), 1);
-        due("n beyond 399", x.judged(1, 1, 2, 0), OUTSIDE);
-        due("z 0", x.judged(0, 0, 1, 0), OUTSIDE);
-        due("z 10", x.judged(0, 10, 1, 0), OUTSIDE);
-        due("what 2", x.judged(0, 1, 1, 2), OUTSIDE);
-        due("what -1", x.judged(0, 1, 1, -1), OUTSIDE);
-        due("n huge", x.judged(1, 1, HUGE, 0), OUTSIDE);
-        due("WORD 2", x.judged(2, 0, 0, 2), UNKNOWN);
-        due("WORD -1", x.judged(-1, 1, 1, 0), UNKNOWN);
     }
 
     private static void keep() {
